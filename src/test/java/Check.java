@@ -36,8 +36,16 @@ final class Check {
             call.make();
         } catch (RuntimeException e) {
             got = e.getClass();
+            yes(what + ": the class throws it itself", isOwnThrow(e));
         }
         count(got == due, what + " threw " + got + ", due is " + due);
+    }
+
+    /** Tells whether a throw statement of the class threw, not the machine or the library below it. */
+    static boolean isOwnThrow(RuntimeException e) {
+        StackTraceElement[] trace = e.getStackTrace();
+        boolean told = e.getMessage() != null && !e.getMessage().contains("Index ");
+        return told && trace.length > 0 && trace[0].getClassName().startsWith("UnitContracts");
     }
 
     private static void count(boolean good, String text) {

@@ -134,7 +134,7 @@ public final class ModelTest {
                 default: return "" + x.madeGood();
             }
         } catch (RuntimeException e) {
-            return e.getClass().getSimpleName();
+            return Check.isOwnThrow(e) ? e.getClass().getSimpleName() : "not by itself: " + e;
         }
     }
 }
