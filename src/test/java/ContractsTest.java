@@ -292,23 +292,8 @@ public final class ContractsTest {
         }
     }
 
-    /** Fills the fund 1 of a contract 0 with its most units; today is the day 3 with prices of 1. */
-    private static UnitContracts full() {
-        UnitContracts x = new UnitContracts();
-        x.make(100000, 0, 0, 1);
-        x.tell(1, 1, 1);
-        x.backdate(0, 1);
-        x.change(0, 1, 0, 100);
-        x.tell(1, 100000, 1);
-        Check.same("what would be more by a switch is lost", x.units(0, 0), 1000000000000L);
-        x.change(0, 0, 1, 100);
-        x.tell(100000, 1, 1);
-        Check.same("a switch of the most units", x.units(0, 1), 1000000000000L);
-        return x;
-    }
-
     private static void promise13Limit() {
-        UnitContracts x = full();
+        UnitContracts x = Start.full();
         Check.same("units that are lost are bought too", x.backdate(0, 3), 100000000);
         Check.same("a backdated premium is lost", x.units(0, 1), 1000000000000L);
         for (int i = 0; i < 13; i++) {

@@ -24,16 +24,8 @@ public final class DayTest {
         Check.end();
     }
 
-    private static UnitContracts onDay(int day) {
-        UnitContracts x = new UnitContracts();
-        for (int left = day; left > 0; left -= 400) {
-            x.pass(Math.min(left, 400));
-        }
-        return x;
-    }
-
     private static void ordersAreMadeBeforeTheCharge() {
-        UnitContracts x = onDay(29);
+        UnitContracts x = Start.onDay(29);
         x.make(210, 0, 0, 0);
         for (int i = 0; i < 13; i++) {
             x.pay(0);
@@ -170,7 +162,7 @@ public final class DayTest {
     }
 
     private static void exchangeFromTheDay720() {
-        UnitContracts x = onDay(689);
+        UnitContracts x = Start.onDay(689);
         x.make(100000, 0, 0, 1);
         x.backdate(0, 0);
         x.pay(0);
@@ -187,7 +179,7 @@ public final class DayTest {
     }
 
     private static void exchangeGoesOnLater() {
-        UnitContracts x = onDay(720);
+        UnitContracts x = Start.onDay(720);
         x.make(100000, 0, 0, 0);
         x.pay(0);
         x.pass(29);
@@ -198,14 +190,7 @@ public final class DayTest {
     }
 
     private static void exchangeStopsAtTheLimit() {
-        UnitContracts x = new UnitContracts();
-        x.make(100000, 0, 0, 1);
-        x.tell(1, 1, 1);
-        x.backdate(0, 1);
-        x.change(0, 1, 0, 100);
-        x.tell(1, 100000, 1);
-        x.change(0, 0, 1, 100);
-        x.tell(100000, 1, 1);
+        UnitContracts x = Start.full();
         x.pass(400);
         x.pass(316);
         Check.same("units after 23 charges", x.units(0, 1), MOST_UNITS - 23 * 200000);
@@ -216,13 +201,13 @@ public final class DayTest {
     }
 
     private static void chargeUsesUnitsOfTheExchange() {
-        UnitContracts x = onDay(719);
+        UnitContracts x = Start.onDay(719);
         x.make(236, 0, 0, 0);
         x.pay(0);
         // 224 units shrink to 221, and 198 are exchanged; what is lost is not at hand for the charge.
         Check.same("lapses", x.pass(1), 1);
         Check.same("charged", x.charged(), 198);
-        UnitContracts y = onDay(719);
+        UnitContracts y = Start.onDay(719);
         y.make(239, 0, 0, 0);
         y.pay(0);
         // 227 units shrink to 224, and 201 are exchanged.

@@ -25,14 +25,6 @@ public final class PricesTest {
         Check.end();
     }
 
-    private static UnitContracts onDay(int day) {
-        UnitContracts x = new UnitContracts();
-        for (int left = day; left > 0; left -= 400) {
-            x.pass(Math.min(left, 400));
-        }
-        return x;
-    }
-
     private static void promise1() {
         UnitContracts x = new UnitContracts();
         Check.same("today of a new object", x.today(), 0);
@@ -88,7 +80,7 @@ public final class PricesTest {
     }
 
     private static void promise2LastDay() {
-        UnitContracts x = onDay(1999);
+        UnitContracts x = Start.onDay(1999);
         Check.same("tell on the day 1999", x.tell(7, 8, 100), 0);
         Check.same("today", x.today(), 2000);
         Check.wrongState("tell on the day 2000", () -> x.tell(1, 1, 1));
@@ -137,7 +129,7 @@ public final class PricesTest {
     }
 
     private static void promise3LastDay() {
-        UnitContracts x = onDay(1601);
+        UnitContracts x = Start.onDay(1601);
         x.make(1050, 0, 0, 0);
         x.pay(0);
         Check.wrongState("pass(400) on the day 1601", () -> x.pass(400));
@@ -148,7 +140,7 @@ public final class PricesTest {
         Check.wrongState("pass(1) on the day 2000", () -> x.pass(1));
         Check.wrongArgument("pass(0) on the day 2000", () -> x.pass(0));
         Check.wrongArgument("pass(401) on the day 2000", () -> x.pass(401));
-        UnitContracts y = onDay(1600);
+        UnitContracts y = Start.onDay(1600);
         Check.same("pass(400) on the day 1600", y.pass(400), 0);
         Check.same("today", y.today(), 2000);
     }
@@ -204,7 +196,7 @@ public final class PricesTest {
     }
 
     private static void promise5Wrong() {
-        UnitContracts x = onDay(5);
+        UnitContracts x = Start.onDay(5);
         for (int wrong : WRONG_FUNDS) {
             Check.wrongArgument("offer of the fund " + wrong, () -> x.offer(wrong, 0));
         }
