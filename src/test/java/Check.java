@@ -30,7 +30,7 @@ final class Check {
         throwing(what, IndexOutOfBoundsException.class, call);
     }
 
-    private static void throwing(String what, Class<?> due, Call call) {
+    static void throwing(String what, Class<?> due, Call call) {
         Class<?> got = null;
         try {
             call.make();

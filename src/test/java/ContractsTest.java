@@ -1,32 +1,22 @@
 /** Promises 6 to 8 and 10 to 16: contracts, their orders, and what is asked of them. */
 public final class ContractsTest {
-    private static final int LOW = Integer.MIN_VALUE;
-    private static final int HIGH = Integer.MAX_VALUE;
-
     private ContractsTest() {
     }
 
     public static void main(String[] args) {
         promise6Numbers();
-        promise6Ranges();
-        promise6Ten();
         promise7();
-        promise7Wrong();
-        promise7ManyOrders();
         promise7TwelveInitial();
         promise8();
         promise8Rounding();
         promise8Order();
-        promise8Wrong();
         promise10();
         promise11();
         promise12();
         promise13();
-        promise13Limit();
         promise14();
         promise15();
         promise16();
-        noSuchContract();
         Check.end();
     }
 
@@ -57,38 +47,6 @@ public final class ContractsTest {
         Check.same("paid of a new contract", x.paid(9), 0);
     }
 
-    private static void promise6Ranges() {
-        UnitContracts x = new UnitContracts();
-        for (int wrong : new int[] {99, 0, -100, 100001, LOW, HIGH}) {
-            Check.wrongArgument("premium " + wrong, () -> x.make(wrong, 0, 0, 0));
-        }
-        for (int wrong : new int[] {-1, 1000001, LOW, HIGH}) {
-            Check.wrongArgument("sum " + wrong, () -> x.make(100, wrong, 0, 0));
-        }
-        for (int wrong : new int[] {-1, 1001, LOW, HIGH}) {
-            Check.wrongArgument("rate " + wrong, () -> x.make(100, 0, wrong, 0));
-        }
-        for (int wrong : new int[] {-1, 3, LOW, HIGH}) {
-            Check.wrongArgument("fund " + wrong, () -> x.make(100, 0, 0, wrong));
-        }
-        Check.same("contracts after wrong ones", x.contracts(), 0);
-        Check.same("the lowest", x.make(100, 0, 0, 0), 0);
-        Check.same("the highest", x.make(100000, 1000000, 1000, 2), 1);
-    }
-
-    private static void promise6Ten() {
-        UnitContracts x = new UnitContracts();
-        for (int i = 0; i < 10; i++) {
-            x.make(100, 0, 0, 0);
-        }
-        Check.wrongState("an eleventh", () -> x.make(100, 0, 0, 0));
-        Check.wrongArgument("a wrong eleventh", () -> x.make(99, 0, 0, 0));
-        Check.wrongArgument("an eleventh of no fund", () -> x.make(100, 0, 0, 3));
-        Check.same("ten lapse", x.pass(30), 10);
-        Check.wrongState("an eleventh when ten have lapsed", () -> x.make(100, 0, 0, 0));
-        Check.same("contracts", x.contracts(), 10);
-    }
-
     private static void promise7() {
         UnitContracts x = new UnitContracts();
         x.make(1000, 0, 0, 1);
@@ -108,28 +66,6 @@ public final class ContractsTest {
         x.pass(1);
         Check.same("an order is made once", x.initial(0), 952);
         Check.same("pay counts from 1 anew", x.pay(1), 1);
-    }
-
-    private static void promise7Wrong() {
-        UnitContracts x = lapsed();
-        for (int wrong : new int[] {-1, 1, 10, LOW, HIGH}) {
-            Check.noSuch("pay " + wrong, () -> x.pay(wrong));
-        }
-        Check.wrongState("pay a lapsed one", () -> x.pay(0));
-        Check.same("waiting", x.waiting(), 0);
-        x.pass(1);
-        Check.same("paid", x.paid(0), 0);
-    }
-
-    private static void promise7ManyOrders() {
-        UnitContracts x = small();
-        for (int i = 1; i <= 507; i++) {
-            Check.same("pay", x.pay(0), i);
-        }
-        Check.same("waiting", x.waiting(), 507);
-        x.pass(1);
-        Check.same("paid", x.paid(0), 507);
-        Check.same("units of 495 premiums", x.units(0, 0), 49500);
     }
 
     private static void promise7TwelveInitial() {
@@ -211,34 +147,6 @@ public final class ContractsTest {
         Check.same("switches, then a premium: units 2", y.units(0, 2), 0);
     }
 
-    private static void promise8Wrong() {
-        UnitContracts x = small();
-        for (int wrong : new int[] {-1, 1, LOW, HIGH}) {
-            Check.noSuch("change " + wrong, () -> x.change(wrong, 0, 1, 50));
-        }
-        Check.noSuch("no contract goes before a wrong fund", () -> x.change(1, 3, 1, 50));
-        wrongChanges(x);
-        Check.same("waiting after wrong ones", x.waiting(), 0);
-        UnitContracts y = lapsed();
-        wrongChanges(y);
-        Check.wrongState("change of a lapsed one", () -> y.change(0, 0, 1, 50));
-        Check.same("waiting of a lapsed one", y.waiting(), 0);
-    }
-
-    private static void wrongChanges(UnitContracts x) {
-        for (int wrong : new int[] {-1, 3, LOW, HIGH}) {
-            Check.wrongArgument("from " + wrong, () -> x.change(0, wrong, 1, 50));
-            Check.wrongArgument("to " + wrong, () -> x.change(0, 0, wrong, 50));
-        }
-        for (int fund = 0; fund < 3; fund++) {
-            int same = fund;
-            Check.wrongArgument("both " + fund, () -> x.change(0, same, same, 50));
-        }
-        for (int wrong : new int[] {0, -1, 101, LOW, HIGH}) {
-            Check.wrongArgument("percent " + wrong, () -> x.change(0, 0, 1, wrong));
-        }
-    }
-
     private static void promise10() {
         UnitContracts x = lapsed();
         Check.same("a lapsed one counts", x.contracts(), 1);
@@ -286,29 +194,6 @@ public final class ContractsTest {
         Check.same("units 1", x.units(0, 1), 0);
         Check.same("units 2 without initial ones", x.units(0, 2), 750);
         Check.same("units of another", x.units(1, 2), 0);
-        for (int wrong : new int[] {-1, 3, LOW, HIGH}) {
-            Check.wrongArgument("units of the fund " + wrong, () -> x.units(0, wrong));
-            Check.noSuch("units of no contract and the fund " + wrong, () -> x.units(2, wrong));
-        }
-    }
-
-    private static void promise13Limit() {
-        UnitContracts x = Start.full();
-        Check.same("units that are lost are bought too", x.backdate(0, 3), 100000000);
-        Check.same("a backdated premium is lost", x.units(0, 1), 1000000000000L);
-        for (int i = 0; i < 13; i++) {
-            x.pay(0);
-        }
-        x.tell(100000, 1, 1);
-        Check.same("initial units have no limit of their own", x.initial(0), 1200000000L);
-        Check.same("a thirteenth premium is lost", x.units(0, 1), 1000000000000L);
-        Check.same("fundUnits", x.fundUnits(1), 1001200000000L);
-        x.change(0, 1, 2, 1);
-        x.tell(1, 1, 1);
-        Check.same("a part is switched", x.units(0, 1), 990000000000L);
-        Check.same("to the other", x.units(0, 2), 10000000000L);
-        x.tell(100000, 100000, 100000);
-        Check.same("worth", x.worth(0), 100120000000000L);
     }
 
     private static void promise14() {
@@ -357,17 +242,5 @@ public final class ContractsTest {
         x.pass(29);
         Check.yes("it has lapsed", !x.isInForce(0));
         Check.same("paid by a lapsed one", x.paid(0), 2);
-    }
-
-    private static void noSuchContract() {
-        UnitContracts x = small();
-        x.make(100, 0, 0, 0);
-        for (int wrong : new int[] {-1, 2, 9, 10, LOW, HIGH}) {
-            Check.noSuch("isInForce " + wrong, () -> x.isInForce(wrong));
-            Check.noSuch("units " + wrong, () -> x.units(wrong, 0));
-            Check.noSuch("initial " + wrong, () -> x.initial(wrong));
-            Check.noSuch("worth " + wrong, () -> x.worth(wrong));
-            Check.noSuch("paid " + wrong, () -> x.paid(wrong));
-        }
     }
 }

@@ -1,7 +1,5 @@
 /** What a day does, whether it is told (promise 2) or passes (promise 3). */
 public final class DayTest {
-    private static final long MOST_UNITS = 1000000000000L;
-
     private DayTest() {
     }
 
@@ -10,15 +8,12 @@ public final class DayTest {
         initialUnitsShrink();
         chargeForWhatIsAtRisk();
         chargeAfterInitialUnitsShrink();
-        nothingIsAtRisk();
-        littleIsAtRisk();
         chargeIsTakenFundByFund();
         neededUnitsAreRoundedUp();
         partOfAChargeIsGot();
         lapseTakesAll();
         exchangeFromTheDay720();
         exchangeGoesOnLater();
-        exchangeStopsAtTheLimit();
         chargeUsesUnitsOfTheExchange();
         premiumHolidays();
         Check.end();
@@ -71,28 +66,6 @@ public final class DayTest {
         // The worth is 94285 and 95238, so 10477 are at risk; before it was 190476.
         Check.same("charged", x.charged(), 304);
         Check.same("units", x.units(0, 0), 95238 - 304);
-    }
-
-    private static void nothingIsAtRisk() {
-        for (int sum : new int[] {0, 1000, 95237, 95238}) {
-            UnitContracts x = new UnitContracts();
-            x.make(100000, sum, 1000, 2);
-            x.backdate(0, 0);
-            x.pass(30);
-            Check.same("charged for the sum " + sum, x.charged(), 200);
-        }
-    }
-
-    private static void littleIsAtRisk() {
-        int[][] due = {{95238 + 99, 1000, 200}, {95238 + 100, 1000, 201}, {95238 + 99999, 1, 200},
-            {95238 + 100000, 1, 201}, {1000000, 0, 200}};
-        for (int[] row : due) {
-            UnitContracts x = new UnitContracts();
-            x.make(100000, row[0], row[1], 2);
-            x.backdate(0, 0);
-            x.pass(30);
-            Check.same("charged for " + row[0] + " at " + row[1], x.charged(), row[2]);
-        }
     }
 
     /** A contract 0 of the fund 2 with 190 units each of the funds 1 and 2, on the day 29. */
@@ -187,17 +160,6 @@ public final class DayTest {
         Check.same("lapses on the day 750", x.pass(1), 0);
         Check.same("initial on the day 750", x.initial(0), 0);
         Check.same("units on the day 750", x.units(0, 0), 84856 - 200);
-    }
-
-    private static void exchangeStopsAtTheLimit() {
-        UnitContracts x = Start.full();
-        x.pass(400);
-        x.pass(316);
-        Check.same("units after 23 charges", x.units(0, 1), MOST_UNITS - 23 * 200000);
-        x.pay(0);
-        x.pass(1);
-        Check.same("today is 720", x.today(), 720);
-        Check.same("units after the exchange", x.units(0, 1), MOST_UNITS - 200000);
     }
 
     private static void chargeUsesUnitsOfTheExchange() {

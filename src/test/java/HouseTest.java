@@ -5,7 +5,6 @@ public final class HouseTest {
 
     public static void main(String[] args) {
         promise17();
-        promise17Wrong();
         promise18();
         promise18PartOfACharge();
         Check.end();
@@ -31,13 +30,6 @@ public final class HouseTest {
         // The contract 2 lapses; the others pay 200 units each.
         Check.same("fundUnits 0 after the charge", x.fundUnits(0), 700);
         Check.same("fundUnits 1 after the charge", x.fundUnits(1), 1800 + 1980 + 100);
-    }
-
-    private static void promise17Wrong() {
-        UnitContracts x = new UnitContracts();
-        for (int wrong : new int[] {-1, 3, Integer.MIN_VALUE, Integer.MAX_VALUE}) {
-            Check.wrongArgument("fundUnits " + wrong, () -> x.fundUnits(wrong));
-        }
     }
 
     private static void promise18() {

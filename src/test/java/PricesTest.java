@@ -1,54 +1,17 @@
 /** Promises 1 to 5: a new object, tell, pass, today, offer. */
 public final class PricesTest {
-    private static final int[] WRONG_PRICES = {0, -1, 100001, Integer.MIN_VALUE, Integer.MAX_VALUE};
-    private static final int[] WRONG_DAYS = {0, -1, 401, Integer.MIN_VALUE, Integer.MAX_VALUE};
-    private static final int[] WRONG_FUNDS = {-1, 3, Integer.MIN_VALUE, Integer.MAX_VALUE};
-
     private PricesTest() {
     }
 
     public static void main(String[] args) {
-        promise1();
-        promise1ObjectsAreApart();
         promise2TellsPrices();
-        promise2WrongPrices();
-        promise2LastDay();
         promise2CountsLapses();
         promise3KeepsPrices();
-        promise3WrongDays();
-        promise3LastDay();
         promise3CountsLapsesOfAllDays();
         promise4();
         promise5();
         promise5Rounding();
-        promise5Wrong();
         Check.end();
-    }
-
-    private static void promise1() {
-        UnitContracts x = new UnitContracts();
-        Check.same("today of a new object", x.today(), 0);
-        Check.same("contracts of a new object", x.contracts(), 0);
-        Check.same("waiting of a new object", x.waiting(), 0);
-        Check.same("charged of a new object", x.charged(), 0);
-        Check.same("madeGood of a new object", x.madeGood(), 0);
-        for (int fund = 0; fund < 3; fund++) {
-            Check.same("offer on the day 0", x.offer(fund, 0), 1050);
-            Check.same("fundUnits of a new object", x.fundUnits(fund), 0);
-        }
-        Check.noSuch("a contract of a new object", () -> x.worth(0));
-    }
-
-    private static void promise1ObjectsAreApart() {
-        UnitContracts x = new UnitContracts();
-        x.make(100, 0, 0, 0);
-        x.backdate(0, 0);
-        x.pay(0);
-        x.tell(5, 6, 7);
-        UnitContracts y = new UnitContracts();
-        Check.same("today of another object", y.today(), 0);
-        Check.same("contracts of another object", y.contracts(), 0);
-        Check.same("fundUnits of another object", y.fundUnits(0), 0);
     }
 
     private static void promise2TellsPrices() {
@@ -61,32 +24,6 @@ public final class PricesTest {
         Check.same("tell the lowest", x.tell(1, 1, 1), 0);
         Check.same("tell the highest", x.tell(100000, 100000, 100000), 0);
         Check.same("today", x.today(), 3);
-    }
-
-    private static void promise2WrongPrices() {
-        UnitContracts x = new UnitContracts();
-        x.make(1050, 0, 0, 0);
-        x.pay(0);
-        for (int wrong : WRONG_PRICES) {
-            Check.wrongArgument("tell first " + wrong, () -> x.tell(wrong, 1, 1));
-            Check.wrongArgument("tell second " + wrong, () -> x.tell(1, wrong, 1));
-            Check.wrongArgument("tell third " + wrong, () -> x.tell(1, 1, wrong));
-        }
-        Check.same("today after wrong prices", x.today(), 0);
-        Check.same("waiting after wrong prices", x.waiting(), 1);
-        Check.same("initial after wrong prices", x.initial(0), 0);
-        x.pass(1);
-        Check.same("prices after wrong prices", x.offer(0, 1), 1050);
-    }
-
-    private static void promise2LastDay() {
-        UnitContracts x = Start.onDay(1999);
-        Check.same("tell on the day 1999", x.tell(7, 8, 100), 0);
-        Check.same("today", x.today(), 2000);
-        Check.wrongState("tell on the day 2000", () -> x.tell(1, 1, 1));
-        Check.wrongArgument("tell wrong prices on the day 2000", () -> x.tell(1, 0, 1));
-        Check.same("today after the last tell", x.today(), 2000);
-        Check.same("offer on the day 2000", x.offer(2, 2000), 105);
     }
 
     private static void promise2CountsLapses() {
@@ -115,34 +52,6 @@ public final class PricesTest {
             Check.same("offer 2 on " + day, x.offer(2, day), 630);
         }
         Check.same("offer before", x.offer(2, 0), 1050);
-    }
-
-    private static void promise3WrongDays() {
-        UnitContracts x = new UnitContracts();
-        x.make(1050, 0, 0, 0);
-        x.pay(0);
-        for (int wrong : WRONG_DAYS) {
-            Check.wrongArgument("pass " + wrong, () -> x.pass(wrong));
-        }
-        Check.same("today after wrong days", x.today(), 0);
-        Check.same("waiting after wrong days", x.waiting(), 1);
-    }
-
-    private static void promise3LastDay() {
-        UnitContracts x = Start.onDay(1601);
-        x.make(1050, 0, 0, 0);
-        x.pay(0);
-        Check.wrongState("pass(400) on the day 1601", () -> x.pass(400));
-        Check.same("today after it", x.today(), 1601);
-        Check.same("waiting after it", x.waiting(), 1);
-        Check.same("pass(399) on the day 1601", x.pass(399), 1);
-        Check.same("today", x.today(), 2000);
-        Check.wrongState("pass(1) on the day 2000", () -> x.pass(1));
-        Check.wrongArgument("pass(0) on the day 2000", () -> x.pass(0));
-        Check.wrongArgument("pass(401) on the day 2000", () -> x.pass(401));
-        UnitContracts y = Start.onDay(1600);
-        Check.same("pass(400) on the day 1600", y.pass(400), 0);
-        Check.same("today", y.today(), 2000);
     }
 
     private static void promise3CountsLapsesOfAllDays() {
@@ -193,16 +102,5 @@ public final class PricesTest {
         Check.same("offer of 39", x.offer(0, 2), 40);
         Check.same("offer of 99999", x.offer(1, 2), 104998);
         Check.same("offer of 100000", x.offer(2, 2), 105000);
-    }
-
-    private static void promise5Wrong() {
-        UnitContracts x = Start.onDay(5);
-        for (int wrong : WRONG_FUNDS) {
-            Check.wrongArgument("offer of the fund " + wrong, () -> x.offer(wrong, 0));
-        }
-        for (int wrong : new int[] {-1, 6, 2001, Integer.MIN_VALUE, Integer.MAX_VALUE}) {
-            Check.wrongArgument("offer on the day " + wrong, () -> x.offer(0, wrong));
-        }
-        Check.same("offer on today", x.offer(0, 5), 1050);
     }
 }

@@ -12,8 +12,6 @@ public final class RepairsTest {
         madeGoodGrows();
         madeGoodIsNeverTakenBack();
         madeGoodOfTheMost();
-        wrongArguments();
-        wrongState();
         Check.end();
     }
 
@@ -129,31 +127,5 @@ public final class RepairsTest {
         Check.same("bought again", x.backdate(0, 1), 100000000);
         Check.same("madeGood", x.madeGood(), 2 * (10500000000L - 100000));
         Check.same("units", x.units(0, 2), 200000000);
-    }
-
-    private static void wrongArguments() {
-        UnitContracts x = new UnitContracts();
-        x.make(1050, 0, 0, 0);
-        x.pass(3);
-        for (int wrong : new int[] {-1, 1, 10, Integer.MIN_VALUE, Integer.MAX_VALUE}) {
-            Check.noSuch("contract " + wrong, () -> x.backdate(wrong, 0));
-            Check.noSuch("contract " + wrong + " and no such day", () -> x.backdate(wrong, 4));
-        }
-        for (int wrong : new int[] {-1, 4, 2001, Integer.MIN_VALUE, Integer.MAX_VALUE}) {
-            Check.wrongArgument("day " + wrong, () -> x.backdate(0, wrong));
-        }
-        Check.same("units after wrong ones", x.units(0, 0), 0);
-        Check.same("madeGood after wrong ones", x.madeGood(), 0);
-    }
-
-    private static void wrongState() {
-        UnitContracts x = new UnitContracts();
-        x.make(1050, 0, 0, 0);
-        x.pass(29);
-        x.tell(5000, 1, 1);
-        Check.wrongState("a lapsed one", () -> x.backdate(0, 0));
-        Check.wrongArgument("a lapsed one and no such day", () -> x.backdate(0, 31));
-        Check.same("units of a lapsed one", x.units(0, 0), 0);
-        Check.same("madeGood for a lapsed one", x.madeGood(), 0);
     }
 }
