@@ -1,9 +1,5 @@
 /** The sentences of "Terms" that name a boundary: each has tests on both of its sides. */
 public final class EdgesTest {
-    // Bid prices at which 100 cents buy 1, 2, .. thousandths at the offer price; see bidFor.
-    private static final int[][] SMALL_BIDS = {{1, 95238}, {2, 47619}, {3, 31746}, {9, 10582}, {10, 9524},
-        {11, 8658}, {12, 7937}, {99, 962}, {100, 953}, {101, 943}, {102, 934}};
-
     private EdgesTest() {
     }
 
@@ -13,6 +9,8 @@ public final class EdgesTest {
         firstTwelvePremiumsOfEachContract();
         firstTwelvePremiumsThatBuyNothing();
         nextDay();
+        worthOfInitialUnitsByThemselves();
+        worthFundByFund();
         multipleOf30ThatIsTold();
         multipleOf30ThatPasses();
         multipleOf30AfterTheOrders();
@@ -26,21 +24,13 @@ public final class EdgesTest {
         asManyAsGiveTheRest();
         orAllIfThereAreFewer();
         atMostTheRest();
+        atMostTheRestOfTheLastFund();
         somethingLeft();
         somethingLeftAfterThreeFunds();
         lapseTakesAllUnits();
         aboveZero();
         aboveZeroEachByItself();
         Check.end();
-    }
-
-    private static int bidFor(int thousandths) {
-        for (int[] row : SMALL_BIDS) {
-            if (row[0] == thousandths) {
-                return row[1];
-            }
-        }
-        throw new IllegalArgumentException("no price is known for " + thousandths);
     }
 
     private static void payTimes(UnitContracts x, int contract, int times) {
@@ -116,6 +106,37 @@ public final class EdgesTest {
         Check.same("paid", x.paid(0), 2);
     }
 
+    // "fund by fund, initial units by themselves": what is less than a cent of a part is lost
+    private static void worthOfInitialUnitsByThemselves() {
+        int[][] due = {{1, 0}, {2, 2}, {3, 2}, {999, 998}, {1000, 1000}, {1001, 1000}};
+        for (int[] row : due) {
+            UnitContracts x = new UnitContracts();
+            x.make(525, 0, 0, 0);
+            x.backdate(0, 0);
+            x.pay(0);
+            x.pass(1);
+            x.tell(row[0], 1, 1);
+            Check.same("worth of 500 and 500 units at " + row[0], x.worth(0), row[1]);
+        }
+    }
+
+    private static void worthFundByFund() {
+        int[][] due = {{1, 1, 1, 0}, {2, 1, 1, 1}, {1, 2, 3, 2}, {3, 3, 3, 3}, {999, 999, 999, 1497},
+            {1000, 1000, 1000, 1500}};
+        for (int[] row : due) {
+            UnitContracts x = new UnitContracts();
+            x.make(525, 0, 0, 0);
+            for (int to = 1; to <= 2; to++) {
+                x.backdate(0, 0);
+                x.change(0, 0, to, 100);
+                x.pass(1);
+            }
+            x.backdate(0, 0);
+            x.tell(row[0], row[1], row[2]);
+            Check.same("worth of 500 units of each fund", x.worth(0), row[3]);
+        }
+    }
+
     /** A contract 0 made on the day 0 with 95238 units of the fund 0, without cover. */
     private static UnitContracts rich() {
         UnitContracts x = new UnitContracts();
@@ -185,25 +206,29 @@ public final class EdgesTest {
         Check.same("it alone lapses on the next", x.pass(1), 1);
     }
 
-    /** A contract 0 with that many initial units and 95 accumulation units of the fund 0, 29 days after a day. */
-    private static UnitContracts withInitial(int firstDay, int thousandths) {
+    /**
+     * A contract 0 with 95 accumulation units and some initial units of the fund 0, 29 days after a day. The bid
+     * price is one at which 100 cents buy so many initial units.
+     */
+    private static UnitContracts withInitial(int firstDay, int thousandths, int bid) {
         UnitContracts x = Start.onDay(firstDay);
         x.make(100, 0, 0, 0);
         x.backdate(0, firstDay);
         x.pass(28);
         x.pay(0);
-        x.tell(bidFor(thousandths), 1, 1);
+        x.tell(bid, 1, 1);
         Check.same("initial", x.initial(0), thousandths);
         return x;
     }
 
     // "Initial units become units * 99 / 100"
     private static void shrinkRoundsDown() {
-        int[][] due = {{1, 0}, {2, 1}, {3, 2}, {99, 98}, {100, 99}, {101, 99}, {102, 100}};
+        int[][] due = {{1, 95238, 0}, {2, 47619, 1}, {3, 31746, 2}, {99, 962, 98},
+            {100, 953, 99}, {101, 943, 99}, {102, 934, 100}};
         for (int[] row : due) {
-            UnitContracts x = withInitial(0, row[0]);
+            UnitContracts x = withInitial(0, row[0], row[1]);
             x.tell(100000, 1, 1);
-            Check.same("what becomes of " + row[0], x.initial(0), row[1]);
+            Check.same("what becomes of " + row[0], x.initial(0), row[2]);
             Check.same("units, less two of a charge", x.units(0, 0), 93);
         }
     }
@@ -247,12 +272,13 @@ public final class EdgesTest {
     // "accumulation units grow by units * 9 / 10, and no initial units are left"
     private static void exchangeRoundsDown() {
         // They are exchanged after they have shrunk: to 0, 1, 2, 9, 10, 11.
-        int[][] due = {{1, 0}, {2, 0}, {3, 1}, {10, 8}, {11, 9}, {12, 9}};
+        int[][] due = {{1, 95238, 0}, {2, 47619, 0}, {3, 31746, 1}, {10, 9524, 8},
+            {11, 8658, 9}, {12, 7937, 9}};
         for (int[] row : due) {
-            UnitContracts x = withInitial(720, row[0]);
+            UnitContracts x = withInitial(720, row[0], row[1]);
             x.tell(100000, 1, 1);
             Check.same("initial", x.initial(0), 0);
-            Check.same("units for " + row[0] + ", less two of a charge", x.units(0, 0), 93 + row[1]);
+            Check.same("units for " + row[0] + ", less two of a charge", x.units(0, 0), 93 + row[2]);
         }
     }
 
@@ -294,17 +320,34 @@ public final class EdgesTest {
 
     // "what is got for those taken, at most the rest, is taken off the rest"
     private static void atMostTheRest() {
-        for (int price : new int[] {5, 1000, 1999, 2000, 3000, 66666, 66667, 99999, 100000}) {
-            UnitContracts x = chargedAt(price);
-            Check.same("charged at " + price, x.charged(), 200);
-            x.pass(30);
-            Check.same("charged at " + price + " again", x.charged(), 400);
+        for (int fund = 0; fund < 3; fund++) {
+            for (int price : new int[] {5, 1000, 1999, 2000, 3000, 66666, 66667, 99999, 100000}) {
+                atMostTheRestAt(fund, price);
+            }
         }
-        UnitContracts y = twoFunds(209);
-        y.tell(1000, 100000, 1);
-        Check.same("one cent is the rest, one thousandth gives 100", y.charged(), 200);
-        Check.same("units of the fund 0", y.units(0, 0), 0);
-        Check.same("units of the fund 1", y.units(0, 1), 198);
+    }
+
+    private static void atMostTheRestAt(int fund, int price) {
+        UnitContracts x = new UnitContracts();
+        x.make(100000, 0, 0, fund);
+        x.backdate(0, 0);
+        x.pass(29);
+        x.tell(price, price, price);
+        Check.same("charged at " + price, x.charged(), 200);
+        for (int other = 0; other < 3; other++) {
+            Check.yes("what is beyond the rest buys nothing", other == fund || x.units(0, other) == 0);
+        }
+        Check.same("lapses", x.pass(30), 0);
+        Check.same("what is beyond the rest is not kept for the next charge", x.charged(), 400);
+    }
+
+    private static void atMostTheRestOfTheLastFund() {
+        UnitContracts x = twoFunds(209);
+        x.tell(1000, 100000, 1);
+        Check.same("one cent is the rest, one thousandth gives 100", x.charged(), 200);
+        Check.same("units of the fund 0", x.units(0, 0), 0);
+        Check.same("units of the fund 1", x.units(0, 1), 198);
+        Check.same("units of the fund 2", x.units(0, 2), 0);
     }
 
     /** A contract 0 with as many units of the fund 0 as of the fund 1: what a premium buys at 1050. On the day 29. */
